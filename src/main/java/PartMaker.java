@@ -108,7 +108,6 @@ public final class PartMaker {
     // ---- growth
 
     public int grow(boolean tests) {
-        solver.outdate();
         return growthOf(tests).advance(allowance);
     }
 
@@ -302,9 +301,10 @@ public final class PartMaker {
                 return OUT_OF_BUDGET;
             }
             left -= growth.madeCount - madeBefore;
-            moreTests = moreTests && !(tests && came != Growth.DONE);
-            moreExpressions = moreExpressions && (tests || came == Growth.DONE);
-            solver.outdate();
+            if (came != Growth.DONE) {
+                moreExpressions = moreExpressions && tests;
+                moreTests = moreTests && !tests;
+            }
             size = settle(ifs);
         }
         return size;
@@ -493,7 +493,7 @@ public final class PartMaker {
     private void forgetAllMade() {
         grownExpressions.forget();
         grownTests.forget();
-        solver.outdate();
+        solver.forget();
         program.stands = false;
     }
 
@@ -1586,6 +1586,10 @@ public final class PartMaker {
         private final int[] fewestKnown = new int[Examples.SETS];
         private int covered;
         private int barred;
+
+        /** What is found holds as long as so many are KEPT: no one goes but by all that was MADE. */
+        private int expressionsSeen;
+        private int testsSeen;
         private boolean isReady;
 
         Solver(Examples examples, Expressions expressions, Tests tests) {
@@ -1594,16 +1598,19 @@ public final class PartMaker {
             this.tests = tests;
         }
 
-        /** What was found holds no longer, as something else is KEPT. */
-        void outdate() {
+        /** All that was MADE goes, and what was found by it. */
+        void forget() {
             isReady = false;
         }
 
         void prepare(int barredPart) {
-            if (isReady && barred == barredPart) {
+            boolean isSeen = expressionsSeen == expressions.keptCount && testsSeen == tests.keptCount;
+            if (isReady && isSeen && barred == barredPart) {
                 return;
             }
             barred = barredPart;
+            expressionsSeen = expressions.keptCount;
+            testsSeen = tests.keptCount;
             isReady = true;
             int sets = examples.all() + 1;
             for (int held = 0; held < IFS_HELD; held++) {
