@@ -178,9 +178,9 @@ public final class PartMaker {
     public int joins(int part, int first, int second)
             throws IllegalArgumentException, NoSuchElementException {
         refuseNoPart(part);
-        growthWith(false, first);
+        refuseNotKept(false, first);
         if (!Parts.isOfOne(part)) {
-            growthWith(false, second);
+            refuseNotKept(false, second);
         }
         grownExpressions.reckon(part, first, Parts.isOfOne(part) ? first : second);
         return grownExpressions.holder();
@@ -199,7 +199,7 @@ public final class PartMaker {
 
     public int unlike(boolean tests, int k, int other) throws NoSuchElementException {
         Growth growth = growthWith(tests, k);
-        growthWith(tests, other);
+        refuseNotKept(tests, other);
         int set = 0;
         for (int e = 0; e < examples.size; e++) {
             if (growth.outputOn(k, e) != growth.outputOn(other, e)) {
@@ -217,16 +217,16 @@ public final class PartMaker {
     }
 
     public int far(int k) throws NoSuchElementException {
-        growthWith(false, k);
+        refuseNotKept(false, k);
         return grownExpressions.farness(k);
     }
 
     public int nearest() {
         int best = NONE;
-        int bestFar = Integer.MAX_VALUE;
+        int bestFar = 0;
         for (int k = 0; k < grownExpressions.keptCount; k++) {
             int distance = grownExpressions.farness(k);
-            if (distance < bestFar) {
+            if (best == NONE || distance < bestFar) {
                 bestFar = distance;
                 best = k;
             }
@@ -262,7 +262,7 @@ public final class PartMaker {
 
     public int differs(boolean tests, int k, int other) throws NoSuchElementException {
         Growth growth = growthWith(tests, k);
-        growthWith(tests, other);
+        refuseNotKept(tests, other);
         int found = 0;
         int points = point.start(examples.many);
         for (int p = 0; p < points; p++) {
@@ -352,7 +352,7 @@ public final class PartMaker {
 
     public int apart(int k, int input) throws IllegalStateException, NoSuchElementException {
         refuseNotSolved();
-        growthWith(false, k);
+        refuseNotKept(false, k);
         refuseNoInputNumber(input);
         int points = point.start(examples.many);
         for (int p = 0; p < points; p++) {
@@ -517,11 +517,14 @@ public final class PartMaker {
     }
 
     private Growth growthWith(boolean tests, int k) {
-        Growth growth = growthOf(tests);
-        if (k < 0 || k >= growth.keptCount) {
+        refuseNotKept(tests, k);
+        return growthOf(tests);
+    }
+
+    private void refuseNotKept(boolean tests, int k) {
+        if (k < 0 || k >= growthOf(tests).keptCount) {
             throw new NoSuchElementException("no such one is KEPT");
         }
-        return growth;
     }
 
     private void refuseNoExample(int example) {
@@ -815,6 +818,25 @@ public final class PartMaker {
         }
     }
 
+    /** How some are MADE: a kind, and the numbers of one or two, or what an INPUT or CONSTANT is. */
+    private static final class Forms {
+        final int[] kinds;
+        final int[] firsts;
+        final int[] seconds;
+
+        Forms(int most) {
+            kinds = new int[most];
+            firsts = new int[most];
+            seconds = new int[most];
+        }
+
+        void put(int k, int kind, int first, int second) {
+            kinds[k] = kind;
+            firsts[k] = first;
+            seconds[k] = second;
+        }
+    }
+
     /** What EXPRESSIONS and TESTS have in common: being MADE by SIZE, KEPT, MERGED, gone back. */
     private abstract static class Growth {
         static final int DONE = 0;
@@ -829,23 +851,20 @@ public final class PartMaker {
         static final int BITS_OF_USES = 4;
 
         final Examples examples;
-        final int most;
-        final int[] kinds;
-        final int[] firsts;
-        final int[] seconds;
+
+        /** How each KEPT one is MADE, and the first that was MERGED with it, where any was. */
+        final Forms forms;
+        final Forms mergedForms;
+
         final int[] sizes;
         final long[] usage;
 
         /** Of an EXPRESSION its COVER, of a TEST where it is 1. */
         final int[] sets;
 
+        /** How many were MERGED with each KEPT one, now and ahead of the SIZE that is MADE. */
         final int[] mergedWith;
-        final int[] mergedBefore;
-
-        /** The first that was MERGED with each (where any was): how it is MADE. */
-        final int[] mergedKinds;
-        final int[] mergedFirsts;
-        final int[] mergedSeconds;
+        private final int[] mergedBefore;
 
         /** By SIZES: the number behind the last KEPT one of it. */
         final int[] ends;
@@ -862,18 +881,13 @@ public final class PartMaker {
 
         Growth(Examples examples, int most, int lastSize) {
             this.examples = examples;
-            this.most = most;
-            kinds = new int[most];
-            firsts = new int[most];
-            seconds = new int[most];
+            forms = new Forms(most);
+            mergedForms = new Forms(most);
             sizes = new int[most];
             usage = new long[most];
             sets = new int[most];
             mergedWith = new int[most];
             mergedBefore = new int[most];
-            mergedKinds = new int[most];
-            mergedFirsts = new int[most];
-            mergedSeconds = new int[most];
             ends = new int[lastSize + 1];
         }
 
@@ -902,24 +916,26 @@ public final class PartMaker {
 
         abstract int outputOn(int k, int example);
 
-        abstract int come(int kind, int first, int second, int[] inputs, int depth);
+        /** What stands as k in some forms comes to. */
+        abstract int come(Forms in, int k, int[] inputs, int depth);
 
-        abstract void spell(Text text, int kind, int first, int second, int depth);
+        /** What stands as k in some forms is WRITTEN. */
+        abstract void spell(Text text, Forms in, int k, int depth);
 
         final int comesTo(int k, int[] inputs) {
-            return come(kinds[k], firsts[k], seconds[k], inputs, DEEPEST);
+            return come(forms, k, inputs, DEEPEST);
         }
 
         final int firstMergedComesTo(int k, int[] inputs) {
-            return come(mergedKinds[k], mergedFirsts[k], mergedSeconds[k], inputs, DEEPEST);
+            return come(mergedForms, k, inputs, DEEPEST);
         }
 
         final void spellKept(Text text, int k) {
-            spell(text, kinds[k], firsts[k], seconds[k], DEEPEST);
+            spell(text, forms, k, DEEPEST);
         }
 
         final void spellFirstMerged(Text text, int k) {
-            spell(text, mergedKinds[k], mergedFirsts[k], mergedSeconds[k], DEEPEST);
+            spell(text, mergedForms, k, DEEPEST);
         }
 
         final int partsIn(int k, int part) {
@@ -1003,7 +1019,7 @@ public final class PartMaker {
                 merge(same, kind, first, second);
                 return true;
             }
-            if (keptCount >= most) {
+            if (keptCount >= sizes.length) {
                 outcome = FULL;
                 return false;
             }
@@ -1023,9 +1039,7 @@ public final class PartMaker {
 
         private void merge(int same, int kind, int first, int second) {
             if (mergedWith[same] == 0) {
-                mergedKinds[same] = kind;
-                mergedFirsts[same] = first;
-                mergedSeconds[same] = second;
+                mergedForms.put(same, kind, first, second);
             }
             mergedWith[same]++;
             mergedCount++;
@@ -1033,9 +1047,7 @@ public final class PartMaker {
 
         private void keep(int kind, int first, int second) {
             int k = keptCount;
-            kinds[k] = kind;
-            firsts[k] = first;
-            seconds[k] = second;
+            forms.put(k, kind, first, second);
             sizes[k] = sizeNow;
             usage[k] = usageOf(kind, first, second);
             mergedWith[k] = 0;
@@ -1219,35 +1231,34 @@ public final class PartMaker {
             return outputs[k * Examples.MOST + example];
         }
 
-        int come(int kind, int first, int second, int[] inputs, int depth) {
+        int come(Forms in, int k, int[] inputs, int depth) {
+            int kind = in.kinds[k];
             if (kind == INPUT) {
-                return inputs[first];
+                return inputs[in.firsts[k]];
             }
             if (kind == CONSTANT || depth == 0) {
-                return first;
+                return in.firsts[k];
             }
-            int a = come(kinds[first], firsts[first], seconds[first], inputs, depth - 1);
-            if (Parts.isOfOne(kind)) {
-                return Parts.apply(kind, a, 0);
-            }
-            int b = come(kinds[second], firsts[second], seconds[second], inputs, depth - 1);
+            int a = come(forms, in.firsts[k], inputs, depth - 1);
+            int b = Parts.isOfOne(kind) ? 0 : come(forms, in.seconds[k], inputs, depth - 1);
             return Parts.apply(kind, a, b);
         }
 
-        void spell(Text text, int kind, int first, int second, int depth) {
+        void spell(Text text, Forms in, int k, int depth) {
+            int kind = in.kinds[k];
             if (kind == INPUT) {
-                text.add((char) ('x' + first));
+                text.add((char) ('x' + in.firsts[k]));
                 return;
             }
             if (kind == CONSTANT || depth == 0) {
-                text.addNumber(first);
+                text.addNumber(in.firsts[k]);
                 return;
             }
             text.addAll(Parts.opening(kind));
-            spell(text, kinds[first], firsts[first], seconds[first], depth - 1);
+            spell(text, forms, in.firsts[k], depth - 1);
             if (!Parts.isOfOne(kind)) {
                 text.add(Parts.MIDDLES[kind]);
-                spell(text, kinds[second], firsts[second], seconds[second], depth - 1);
+                spell(text, forms, in.seconds[k], depth - 1);
             }
             text.add(')');
         }
@@ -1387,34 +1398,35 @@ public final class PartMaker {
             return sets[k] >> example & 1;
         }
 
-        int come(int kind, int first, int second, int[] inputs, int depth) {
+        int come(Forms in, int k, int[] inputs, int depth) {
+            int kind = in.kinds[k];
+            int first = in.firsts[k];
+            int second = in.seconds[k];
             if (kind == LESS) {
                 return expressions.comesTo(first, inputs) < expressions.comesTo(second, inputs) ? 1 : 0;
             }
             if (kind == EQUAL) {
                 return expressions.comesTo(first, inputs) == expressions.comesTo(second, inputs) ? 1 : 0;
             }
-            if (depth == 0) {
-                return 0;
-            }
-            int a = come(kinds[first], firsts[first], seconds[first], inputs, depth - 1);
+            int a = depth == 0 ? 0 : come(forms, first, inputs, depth - 1);
             if (kind == NOT) {
                 return 1 - a;
             }
-            return a & come(kinds[second], firsts[second], seconds[second], inputs, depth - 1);
+            return a == 0 ? 0 : come(forms, second, inputs, depth - 1);
         }
 
-        void spell(Text text, int kind, int first, int second, int depth) {
+        void spell(Text text, Forms in, int k, int depth) {
+            int kind = in.kinds[k];
             text.addAll(kind == NOT ? "!(" : "(");
             if (kind == LESS || kind == EQUAL) {
-                expressions.spellKept(text, first);
+                expressions.spellKept(text, in.firsts[k]);
                 text.add(MIDDLES[kind]);
-                expressions.spellKept(text, second);
+                expressions.spellKept(text, in.seconds[k]);
             } else if (depth > 0) {
-                spell(text, kinds[first], firsts[first], seconds[first], depth - 1);
+                spell(text, forms, in.firsts[k], depth - 1);
                 if (kind == AND) {
                     text.add(MIDDLES[kind]);
-                    spell(text, kinds[second], firsts[second], seconds[second], depth - 1);
+                    spell(text, forms, in.seconds[k], depth - 1);
                 }
             }
             text.add(')');

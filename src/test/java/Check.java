@@ -1,0 +1,102 @@
+/** What the tests share: it prints each answer that is not the one due, and ends with exit code 1. */
+final class Check {
+    static final Class<IllegalArgumentException> ARGUMENT = IllegalArgumentException.class;
+    static final Class<IllegalStateException> STATE = IllegalStateException.class;
+    static final Class<java.util.NoSuchElementException> ELEMENT = java.util.NoSuchElementException.class;
+
+    private int asked;
+    private int wrong;
+    private String promise = "";
+
+    interface Call {
+        long ask();
+    }
+
+    interface Answer {
+        boolean ask();
+    }
+
+    /** Names the promise that is tested from here on. */
+    void promise(String name) {
+        promise = name;
+    }
+
+    private static String outcome(Call call) {
+        try {
+            return "" + call.ask();
+        } catch (RuntimeException e) {
+            return "throws." + e.getClass().getSimpleName();
+        }
+    }
+
+    private void same(String told, String got, String want) {
+        asked++;
+        if (!got.equals(want)) {
+            wrong++;
+            System.out.println(promise + ": " + told + " answered " + got + ", due is " + want);
+        }
+    }
+
+    void due(String told, long want, Call call) {
+        same(told, outcome(call), "" + want);
+    }
+
+    void is(String told, boolean want, Answer answer) {
+        same(told, outcome(() -> answer.ask() ? 1 : 0), want ? "1" : "0");
+    }
+
+    void refused(String told, Class<? extends RuntimeException> by, Call call) {
+        same(told, outcome(call), "throws." + by.getSimpleName());
+    }
+
+    /** A call that WRITES: how many bytes it tells, and all bytes. */
+    void writes(String told, String want, PartMaker maker, Call call) {
+        due(told, want.length(), call);
+        same(told + ", octets", written(maker), want);
+    }
+
+    static String written(PartMaker maker) {
+        StringBuilder text = new StringBuilder();
+        for (int k = 0; k < maker.count(5); k++) {
+            text.append((char) maker.octet(k));
+        }
+        return text.toString();
+    }
+
+    /** A maker with one INPUT and EXAMPLES told as x and WANTED by turns. */
+    static PartMaker ofOne(int... told) {
+        PartMaker maker = new PartMaker();
+        for (int i = 0; i + 1 < told.length; i += 2) {
+            maker.example(told[i], 0, 0, told[i + 1]);
+        }
+        return maker;
+    }
+
+    /** A maker with two INPUTS and EXAMPLES told as x, y and WANTED by turns. */
+    static PartMaker ofTwo(int... told) {
+        PartMaker maker = new PartMaker();
+        maker.many(2);
+        for (int i = 0; i + 2 < told.length; i += 3) {
+            maker.example(told[i], told[i + 1], 0, told[i + 2]);
+        }
+        return maker;
+    }
+
+    static void allowNoPart(PartMaker maker) {
+        for (int part = 0; part <= 9; part++) {
+            maker.part(part, false);
+        }
+    }
+
+    static void allowPart(PartMaker maker, int part) {
+        maker.part(part, true);
+    }
+
+    void end() {
+        System.out.println(wrong == 0 ? asked + " answers are as due"
+                : wrong + " of " + asked + " answers are not as due");
+        if (wrong != 0) {
+            System.exit(1);
+        }
+    }
+}
