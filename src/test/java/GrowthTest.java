@@ -285,6 +285,11 @@ public final class GrowthTest {
         PartMaker maker = wide();
         int[] came = growToFull(maker, false);
         isFull(maker, false, 300, came);
+        maker.constant(0);
+        CHECK.due("grown(false, 3), gone", 0, () -> maker.grown(false, 3));
+        maker.budget(20000);
+        int[] more = growToFull(maker, false);
+        CHECK.due("grown(false, 5), FULL anew", came[2], () -> more[2]);
 
         CHECK.promise("promise 9, FULL and BUDGET");
         PartMaker again = wide();

@@ -21,6 +21,8 @@ public final class ProgramsTest {
         way();
         isIdle();
         isIdleByWhatIsKeptNow();
+        isIdleBehindWithout();
+        foundAnew();
         fits();
         fewest();
         splits();
@@ -511,6 +513,36 @@ public final class ProgramsTest {
         CHECK.is("isIdle(0)", true, () -> other.isIdle(0));
         CHECK.is("isIdle(1)", false, () -> other.isIdle(1));
         CHECK.is("isIdle(2)", false, () -> other.isIdle(2));
+    }
+
+    private static void isIdleBehindWithout() {
+        CHECK.promise("promise 38, behind without()");
+        PartMaker maker = Check.ofOne(1, -1, 0, 0, 5, -5);
+        maker.make(0);
+        CHECK.due("solved(0), -(x)", 2, () -> maker.solved(0));
+        CHECK.due("without(5, 0)", -1, () -> maker.without(5, 0));
+        CHECK.is("isIdle(2)", true, () -> maker.isIdle(2));
+        CHECK.is("isIdle(0)", true, () -> maker.isIdle(0));
+    }
+
+    private static void foundAnew() {
+        CHECK.promise("promises 34, 35 and 40, found anew as more grows");
+        PartMaker maker = GrowthTest.steps();
+        maker.grow(false);
+        CHECK.due("needed(), no TESTS", -1, () -> maker.needed());
+        CHECK.due("ties(2), no TESTS", 0, () -> maker.ties(2));
+        maker.grow(true);
+        CHECK.due("needed()", 2, () -> maker.needed());
+        CHECK.due("ties(2)", 10, () -> maker.ties(2));
+        CHECK.due("fewest()", 3, () -> maker.fewest());
+        maker.drop(1);
+        CHECK.due("fewest(), gone", -1, () -> maker.fewest());
+        maker.grow(false);
+        maker.grow(true);
+        // x -4, 4, 5, -6: (x<0), (x<1) are alike, and (0<x): two TESTS are KEPT
+        CHECK.due("fewest()", 2, () -> maker.fewest());
+        CHECK.due("needed()", 1, () -> maker.needed());
+        CHECK.due("ties(2)", 2, () -> maker.ties(2));
     }
 
     private static void fits() {

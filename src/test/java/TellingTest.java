@@ -166,6 +166,7 @@ public final class TellingTest {
     private static PartMaker solvedOne() {
         PartMaker maker = Check.ofOne(1, 1, 2, 2);
         maker.grow(false);
+        maker.grow(false);
         maker.grow(true);
         maker.solve(0);
         maker.write(true, 0);
@@ -205,8 +206,21 @@ public final class TellingTest {
         PartMaker byConstants = solvedOne();
         byConstants.constants();
         isGone("constants", byConstants);
+        CHECK.due("grow(true), of nothing", 0, () -> byConstants.grow(true));
+        CHECK.due("grown(true, 5)", 0, () -> byConstants.grown(true, 5));
         byConstants.grow(false);
         CHECK.due("grown(false, 0), numbers anew", 4, () -> byConstants.grown(false, 0));
+        CHECK.due("kept(false, 1, 1), MERGED anew", 0, () -> byConstants.kept(false, 1, 1));
+
+        PartMaker other = Check.ofOne(2, 2);
+        other.grow(false);
+        other.solve(0);
+        CHECK.due("solved(5), x", 0, () -> other.solved(5));
+        other.drop(0);
+        other.example(2, 0, 0, 1);
+        other.grow(false);
+        other.solve(0);
+        CHECK.due("solved(5), 1, as many are KEPT as before", 2, () -> other.solved(5));
     }
 
     private static void whatIsRefusedChangesNothing() {
@@ -223,7 +237,7 @@ public final class TellingTest {
         maker.budget(7);
         CHECK.due("count(6)", 1, () -> maker.count(6));
         CHECK.due("solved(5)", 0, () -> maker.solved(5));
-        CHECK.due("grown(false, 0)", 3, () -> maker.grown(false, 0));
+        CHECK.due("grown(false, 0)", 5, () -> maker.grown(false, 0));
         CHECK.due("grown(true, 2)", 3, () -> maker.grown(true, 2));
     }
 
