@@ -1001,7 +1001,7 @@ public final class PartMaker {
             return outcome;
         }
 
-        /** One is MADE, if there is room: whether another may be. */
+        /** One is MADE, if there is room, and KEPT or not: whether another may be MADE. */
         final boolean offer(int kind, int first, int second) {
             if (room == 0) {
                 outcome = BUDGET;
@@ -1023,7 +1023,12 @@ public final class PartMaker {
                 outcome = FULL;
                 return false;
             }
-            keep(kind, first, second);
+            forms.put(keptCount, kind, first, second);
+            sizes[keptCount] = sizeNow;
+            usage[keptCount] = usageOf(kind, first, second);
+            mergedWith[keptCount] = 0;
+            settleOutputs(keptCount);
+            keptCount++;
             return true;
         }
 
@@ -1043,16 +1048,6 @@ public final class PartMaker {
             }
             mergedWith[same]++;
             mergedCount++;
-        }
-
-        private void keep(int kind, int first, int second) {
-            int k = keptCount;
-            forms.put(k, kind, first, second);
-            sizes[k] = sizeNow;
-            usage[k] = usageOf(kind, first, second);
-            mergedWith[k] = 0;
-            settleOutputs(k);
-            keptCount++;
         }
 
         private void unsettleBehind(int kept) {
