@@ -1585,12 +1585,17 @@ public final class PartMaker {
         /** By sets: the least KEPT EXPRESSION that FITS it; NOBODY. */
         private final int[] least = new int[Examples.SETS];
 
-        /** By ifs less 1, by sets: the least SIZE, and in how many ways; 0 as long as not asked. */
-        private final int[][] sizes = new int[IFS_HELD][Examples.SETS];
-        private final int[][] ways = new int[IFS_HELD][Examples.SETS];
+        /** By ifs, by sets: the least SIZE, NO_SIZE; 0 as long as not asked (without ifs all are found). */
+        private final int[][] sizes = new int[IFS_HELD + 1][Examples.SETS];
+
+        /** By ifs, by sets: in how many ways that SIZE comes; 0 as long as not asked. */
+        private final int[][] ways = new int[IFS_HELD + 1][Examples.SETS];
 
         /** By sets: the fewest EXPRESSIONS that COVER it; 0 as long as not asked. */
         private final int[] fewestKnown = new int[Examples.SETS];
+        /** TESTS without the barred PART, by their numbers. */
+        private final int[] usable = new int[Tests.MOST];
+        private int usableCount;
         private int covered;
         private int barred;
 
@@ -1620,17 +1625,31 @@ public final class PartMaker {
             testsSeen = tests.keptCount;
             isReady = true;
             int sets = examples.all() + 1;
-            for (int held = 0; held < IFS_HELD; held++) {
+            for (int held = 0; held <= IFS_HELD; held++) {
                 Arrays.fill(sizes[held], 0, sets, 0);
                 Arrays.fill(ways[held], 0, sets, 0);
             }
             Arrays.fill(fewestKnown, 0, sets, 0);
-            Arrays.fill(least, 0, sets, NOBODY);
+            findUsable();
             findLeast(sets);
+            for (int set = 0; set < sets; set++) {
+                sizes[0][set] = least[set] == NOBODY ? NO_SIZE : expressions.sizes[least[set]];
+            }
+        }
+
+        private void findUsable() {
+            usableCount = 0;
+            for (int t = 0; t < tests.keptCount; t++) {
+                if (tests.lacks(t, barred)) {
+                    usable[usableCount] = t;
+                    usableCount++;
+                }
+            }
         }
 
         /** What FITS a set FITS each smaller one: each passes on to those with one bit less. */
         private void findLeast(int sets) {
+            Arrays.fill(least, 0, sets, NOBODY);
             covered = 0;
             for (int k = expressions.keptCount - 1; k >= 0; k--) {
                 if (expressions.lacks(k, barred)) {
@@ -1652,36 +1671,36 @@ public final class PartMaker {
             return size == NO_SIZE ? NONE : size;
         }
 
-        private int sizeAlone(int set) {
-            return least[set] == NOBODY ? NO_SIZE : expressions.sizes[least[set]];
-        }
-
         private int sizeOf(int set, int ifs) {
-            int best = sizeAlone(set);
-            if (ifs == 0 || (set & ~covered) != 0) {
+            boolean isHeld = ifs <= IFS_HELD;
+            if (isHeld && sizes[ifs][set] != 0) {
+                return sizes[ifs][set];
+            }
+            int best = sizes[0][set];
+            if ((set & ~covered) != 0) {
                 return best;
             }
-            boolean isHeld = ifs <= IFS_HELD;
-            if (isHeld && sizes[ifs - 1][set] != 0) {
-                return sizes[ifs - 1][set];
-            }
-            // TESTS' SIZES rise with their numbers: no later one can do better either
-            for (int t = 0; t < tests.keptCount && tests.sizes[t] + LEAST_ADDED < best; t++) {
-                int size = sizeWith(t, set, ifs);
+            for (int i = 0; i < usableCount && mayDo(usable[i], best - 1); i++) {
+                int size = sizeWith(usable[i], set, ifs);
                 if (size < best) {
                     best = size;
                 }
             }
             if (isHeld) {
-                sizes[ifs - 1][set] = best;
+                sizes[ifs][set] = best;
             }
             return best;
+        }
+
+        /** Whether an if may be so small: as TESTS' SIZES rise, no later TEST does what one cannot. */
+        private boolean mayDo(int test, int size) {
+            return tests.sizes[test] + LEAST_ADDED <= size;
         }
 
         /** The SIZE of the best if with a TEST; NO_SIZE also where then or else has no EXAMPLE. */
         private int sizeWith(int test, int set, int ifs) {
             int thens = set & tests.sets[test];
-            if (thens == 0 || thens == set || !tests.lacks(test, barred)) {
+            if (thens == 0 || thens == set) {
                 return NO_SIZE;
             }
             int thenSize = sizeOf(thens, ifs - 1);
@@ -1696,7 +1715,7 @@ public final class PartMaker {
         void place(Program into, int node, int set, int ifs) {
             int best = sizeOf(set, ifs);
             int test = NONE;
-            if (best != sizeAlone(set) && Program.mayAsk(node)) {
+            if (best != sizes[0][set] && Program.mayAsk(node)) {
                 test = firstTestWith(best, set, ifs);
             }
             into.asked[node] = test;
@@ -1710,9 +1729,9 @@ public final class PartMaker {
         }
 
         private int firstTestWith(int size, int set, int ifs) {
-            for (int t = 0; t < tests.keptCount; t++) {
-                if (sizeWith(t, set, ifs) == size) {
-                    return t;
+            for (int i = 0; i < usableCount; i++) {
+                if (sizeWith(usable[i], set, ifs) == size) {
+                    return usable[i];
                 }
             }
             return NONE;
@@ -1724,20 +1743,20 @@ public final class PartMaker {
             if (best == NO_SIZE) {
                 return 0;
             }
-            boolean isHeld = ifs > 0 && ifs <= IFS_HELD;
-            if (isHeld && ways[ifs - 1][set] != 0) {
-                return ways[ifs - 1][set];
+            boolean isHeld = ifs <= IFS_HELD;
+            if (isHeld && ways[ifs][set] != 0) {
+                return ways[ifs][set];
             }
-            long found = best == sizeAlone(set) ? countFitting(set, best) : 0;
-            for (int t = 0; ifs > 0 && t < tests.keptCount && tests.sizes[t] + LEAST_ADDED <= best; t++) {
-                if (sizeWith(t, set, ifs) == best) {
-                    int thens = set & tests.sets[t];
+            long found = best == sizes[0][set] ? countFitting(set, best) : 0;
+            for (int i = 0; ifs > 0 && i < usableCount && mayDo(usable[i], best); i++) {
+                if (sizeWith(usable[i], set, ifs) == best) {
+                    int thens = set & tests.sets[usable[i]];
                     long both = (long) waysOf(thens, ifs - 1) * waysOf(set ^ thens, ifs - 1);
                     found = Math.min(MOST_WAYS, found + Math.min(MOST_WAYS, both));
                 }
             }
             if (isHeld) {
-                ways[ifs - 1][set] = (int) found;
+                ways[ifs][set] = (int) found;
             }
             return (int) found;
         }
