@@ -16,6 +16,11 @@ final class Check {
         boolean ask();
     }
 
+    /** A call with a number that is in, or is none. */
+    interface CallOf {
+        long ask(int number);
+    }
+
     /** Names the promise that is tested from here on. */
     void promise(String name) {
         promise = name;
@@ -49,6 +54,32 @@ final class Check {
         same(told, outcome(call), "throws." + by.getSimpleName());
     }
 
+    /** Numbers that are none for a call, each of them. */
+    void refusedAll(String told, Class<? extends RuntimeException> by, CallOf call, int... numbers) {
+        for (int number : numbers) {
+            refused(told + " with " + number, by, () -> call.ask(number));
+        }
+    }
+
+    /** What a call answers with 0, 1 and so on. */
+    void dueAll(String told, CallOf call, long... due) {
+        for (int k = 0; k < due.length; k++) {
+            int number = k;
+            due(told + " with " + k, due[k], () -> call.ask(number));
+        }
+    }
+
+    /** All that can be asked of a maker is as it was told before: only the first that is not is shown. */
+    void unchanged(String told, String before, PartMaker maker) {
+        String[] due = before.split(" ");
+        String[] got = Facts.of(maker).split(" ");
+        int k = 0;
+        while (k < due.length && k < got.length && due[k].equals(got[k])) {
+            k++;
+        }
+        same(told + ", fact " + k, k < got.length ? got[k] : "all", k < due.length ? due[k] : "all");
+    }
+
     /** A call that WRITES: how many bytes it tells, and all bytes. */
     void writes(String told, String want, PartMaker maker, Call call) {
         due(told, want.length(), call);
@@ -80,6 +111,40 @@ final class Check {
             maker.example(told[i], told[i + 1], 0, told[i + 2]);
         }
         return maker;
+    }
+
+    /** The KEPT one that is WRITTEN so; -1 without. */
+    static int numberOf(PartMaker maker, boolean tests, String text) {
+        for (int k = 0; k < maker.grown(tests, 0); k++) {
+            maker.write(tests, k);
+            if (written(maker).equals(text)) {
+                return k;
+            }
+        }
+        return -1;
+    }
+
+    /** The KEPT EXPRESSION that comes to so much on the first EXAMPLE; -1 without. */
+    static int numberWith(PartMaker maker, int output) {
+        for (int k = 0; k < maker.grown(false, 0); k++) {
+            if (maker.output(false, k, 0) == output) {
+                return k;
+            }
+        }
+        return -1;
+    }
+
+    static void allowOnly(PartMaker maker, int... parts) {
+        allowNoPart(maker);
+        for (int part : parts) {
+            allowPart(maker, part);
+        }
+    }
+
+    static void grow(PartMaker maker, boolean tests, int times) {
+        for (int turn = 0; turn < times; turn++) {
+            maker.grow(tests);
+        }
     }
 
     static void allowNoPart(PartMaker maker) {

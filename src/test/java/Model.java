@@ -221,8 +221,11 @@ final class Model {
     }
 
     private boolean inputsFine(int x, int y, int z) {
-        return Math.abs(x) <= 99 && Math.abs(y) <= 99 && Math.abs(z) <= 99
-                && (many >= 2 || y == 0) && (many >= 3 || z == 0);
+        boolean inRange = true;
+        for (int v : new int[] {x, y, z}) {
+            inRange = inRange && v >= -99 && v <= 99;
+        }
+        return inRange && (many >= 2 || y == 0) && (many >= 3 || z == 0);
     }
 
     private boolean isExample(int e) {
