@@ -1672,6 +1672,9 @@ public final class PartMaker {
         }
 
         private int sizeOf(int set, int ifs) {
+            if (ifs <= 0) {
+                return sizes[0][set];
+            }
             boolean isHeld = ifs <= IFS_HELD;
             if (isHeld && sizes[ifs][set] != 0) {
                 return sizes[ifs][set];

@@ -113,6 +113,17 @@ final class Check {
         return maker;
     }
 
+    /** A maker with three INPUTS, the greatest BUDGET and 12 EXAMPLES: WANTED are so many times 0 to 11, less some. */
+    static PartMaker ofTwelve(int times, int less) {
+        PartMaker maker = new PartMaker();
+        maker.many(3);
+        for (int e = 0; e < 12; e++) {
+            maker.example(e - 6, e * e % 11 - 4, e * 7 % 13 - 5, times * e - less);
+        }
+        maker.budget(20000);
+        return maker;
+    }
+
     /** The KEPT one that is WRITTEN so; -1 without. */
     static int numberOf(PartMaker maker, boolean tests, String text) {
         for (int k = 0; k < maker.grown(tests, 0); k++) {

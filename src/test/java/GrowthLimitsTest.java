@@ -17,7 +17,9 @@ public final class GrowthLimitsTest {
         exactly300();
         exactly300AtTheLastLevel();
         the301stStopsAtOnce();
+        the301stByAPartOfOne();
         fullGoesWithAllThatWasMade();
+        the151stBeforeOthers();
         exactly150();
         exactly150AtTheLastLevel();
         fullIsApart();
@@ -221,19 +223,9 @@ public final class GrowthLimitsTest {
         CHECK.due("grow(false), LEVEL 9", 3, () -> maker.grow(false));
     }
 
-    private static PartMaker wide() {
-        PartMaker maker = new PartMaker();
-        maker.many(3);
-        for (int e = 0; e < 12; e++) {
-            maker.example(e - 6, e * e % 11 - 4, e * 7 % 13 - 5, e);
-        }
-        maker.budget(20000);
-        return maker;
-    }
-
     private static void the301stStopsAtOnce() {
-        CHECK.promise("GROWTH, 'nothing more is MADE of any SIZE (those KEPT of that SIZE stay; LEVEL as ahead of it)'");
-        PartMaker maker = wide();
+        CHECK.promise("GROWTH, 'nothing more is MADE of any SIZE (those KEPT of that SIZE stay ...)'");
+        PartMaker maker = Check.ofTwelve(1, 0);
         grow(maker, false, 4);
         int before = maker.grown(false, 0);
         CHECK.due("grow(false), FULL now", 1, () -> maker.grow(false));
@@ -250,9 +242,51 @@ public final class GrowthLimitsTest {
         CHECK.unchanged("FULL already", facts, maker);
     }
 
+    /** FULL now: no one is MADE behind the first that is not KEPT. */
+    private static void isFullWith(PartMaker maker, boolean tests, int made) {
+        int came = 0;
+        for (int turn = 0; turn < 9 && came == 0; turn++) {
+            came = maker.grow(tests);
+        }
+        int last = came;
+        CHECK.due("grow(" + tests + "), FULL now", 1, () -> last);
+        CHECK.due("grown(" + tests + ", 0)", tests ? 150 : 300, () -> maker.grown(tests, 0));
+        CHECK.due("grown(" + tests + ", 5)", made, () -> maker.grown(tests, 5));
+        CHECK.due("all of them, and one", made - 1,
+                () -> maker.grown(tests, 0) + maker.grown(tests, 1) + maker.grown(tests, 4));
+    }
+
+    private static void the301stByAPartOfOne() {
+        CHECK.promise("GROWTH, 'nothing more is MADE': the 301st by a PART of one, more of it and PARTS behind");
+        PartMaker maker = Check.ofOne(-9, 0, 0, 0, 4, 0);
+        Check.allowOnly(maker, 0, 1, 2, 3, 5, 6, 7, 8, 9);
+        maker.budget(20000);
+        isFullWith(maker, false, 1999);
+    }
+
+    private static void the151stBeforeOthers() {
+        CHECK.promise("GROWTH, 'nothing more is MADE': the 151st by < and by not, with others behind");
+        PartMaker less = ofThree(-8, -2, -2, -1, 8, 1, 4, -5, 9, -1, 6, -1, 9, 0, -3, 1, 1, -1, -2, 1, 3, -3, -7, 4,
+                9, -9, -3, 6, 4, 4, 3, -4, -5, -7, -1, -7);
+        Check.allowOnly(less, 1, 2, 3, 5, 6, 8, 9);
+        for (int v : new int[] {2, -1, -4, -9, -6}) {
+            less.constant(v);
+        }
+        grow(less, false, 2);
+        isFullWith(less, true, 813);
+        PartMaker nots = ofThree(8, -7, -8, -2, -2, -1, -6, -2, 1, 3, -3, -8, -7, -1, 9, 6, 7, -4, 2, 2, 7, 1, -2, 2,
+                -3, -5, 6, 4, 3, 4, -4, -7, 8, 1, 7, 4);
+        Check.allowOnly(nots, 1, 2, 3, 4, 5, 7, 8);
+        for (int v : new int[] {9, -3, -6, 4}) {
+            nots.constant(v);
+        }
+        grow(nots, false, 2);
+        isFullWith(nots, true, 703);
+    }
+
     private static void fullGoesWithAllThatWasMade() {
         CHECK.promise("GROWTH, FULL goes with all that was MADE");
-        PartMaker maker = wide();
+        PartMaker maker = Check.ofTwelve(1, 0);
         grow(maker, false, 4);
         CHECK.due("grow(false), FULL now", 1, () -> maker.grow(false));
         maker.part(6, false);
@@ -485,11 +519,11 @@ public final class GrowthLimitsTest {
 
     private static void budgetAsAhead() {
         CHECK.promise("BUDGET, 'all is as ahead of that SIZE (what is KEPT, MERGED, IDLE, counted as MADE, LEVEL)'");
-        PartMaker never = wide();
+        PartMaker never = Check.ofTwelve(1, 0);
         grow(never, false, 2);
         grow(never, true, 2);
         never.solve(3);
-        PartMaker maker = wide();
+        PartMaker maker = Check.ofTwelve(1, 0);
         grow(maker, false, 2);
         grow(maker, true, 2);
         maker.solve(3);
@@ -612,7 +646,8 @@ public final class GrowthLimitsTest {
         CHECK.promise("promise 10, 'another what'");
         PartMaker maker = odd(2);
         for (boolean tests : new boolean[] {false, true}) {
-            CHECK.refusedAll("grown(" + tests + ")", Check.ELEMENT, what -> maker.grown(tests, what), 6, -1, 7, MIN, MAX);
+            CHECK.refusedAll("grown(" + tests + ")", Check.ELEMENT, what -> maker.grown(tests, what), 6, -1, 7,
+                    MIN, MAX);
         }
         grown(maker, false, 5, 1, 2, 0, 0, 6);
         grown(maker, true, 0, 0, 0, 0, 0, 0);

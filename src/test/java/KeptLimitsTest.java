@@ -80,12 +80,7 @@ public final class KeptLimitsTest {
     }
 
     private static PartMaker full() {
-        PartMaker maker = new PartMaker();
-        maker.many(3);
-        for (int e = 0; e < 12; e++) {
-            maker.example(e - 6, e * e % 11 - 4, e * 7 % 13 - 5, e);
-        }
-        maker.budget(20000);
+        PartMaker maker = Check.ofTwelve(1, 0);
         Check.grow(maker, false, 5);
         Check.grow(maker, true, 2);
         return maker;
@@ -182,7 +177,8 @@ public final class KeptLimitsTest {
         CHECK.refused("kept(true, 0, 0) of none", Check.ELEMENT, () -> new PartMaker().kept(true, 0, 0));
         for (int what = 0; what <= 2; what++) {
             int asked = what;
-            CHECK.refusedAll("kept, EXPRESSION", Check.ELEMENT, k -> maker.kept(false, k, asked), 13, -1, 300, MIN, MAX);
+            CHECK.refusedAll("kept, EXPRESSION", Check.ELEMENT, k -> maker.kept(false, k, asked), 13, -1, 300, MIN,
+                    MAX);
             CHECK.refusedAll("kept, TEST", Check.ELEMENT, k -> maker.kept(true, k, asked), 4, -1, 12, 150, MIN, MAX);
         }
         for (int k = 0; k <= 12; k += 12) {
@@ -419,11 +415,11 @@ public final class KeptLimitsTest {
         CHECK.promise("promise 17, 'there is none such'");
         PartMaker maker = odd();
         for (int part : new int[] {0, 1, 2, 3, 4, 6, 7}) {
-            CHECK.refusedAll("joins " + part + ", first", Check.ELEMENT, k -> maker.joins(part, k, 0), 13, -1, MIN, MAX);
-            CHECK.refusedAll("joins " + part + ", second", Check.ELEMENT, k -> maker.joins(part, 0, k), 13, -1, MIN, MAX);
+            CHECK.refusedAll("joins " + part, Check.ELEMENT, k -> maker.joins(part, k, 0), 13, -1, MIN, MAX);
+            CHECK.refusedAll("joins " + part, Check.ELEMENT, k -> maker.joins(part, 0, k), 13, -1, MIN, MAX);
         }
         for (int part : new int[] {5, 8, 9}) {
-            CHECK.refusedAll("joins " + part + ", first", Check.ELEMENT, k -> maker.joins(part, k, 0), 13, -1, MIN, MAX);
+            CHECK.refusedAll("joins " + part, Check.ELEMENT, k -> maker.joins(part, k, 0), 13, -1, MIN, MAX);
         }
         CHECK.due("joins(3, 12, 12), the last", 12, () -> maker.joins(3, 12, 12));
         PartMaker none = Check.ofOne(1, 1);

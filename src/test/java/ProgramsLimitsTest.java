@@ -17,6 +17,7 @@ public final class ProgramsLimitsTest {
         ifsWithinOneAnother();
         mostIfs();
         nineEnds();
+        deepestBehindThen();
         oneIfLess();
         expressionAheadOfIf();
         leastNumbers();
@@ -54,6 +55,9 @@ public final class ProgramsLimitsTest {
         fewestEdges();
         splitsSets();
         splitsLeastNumber();
+        byWhatIsKeptNow();
+        whatIsGoneCountsForNothing();
+        setsWithAll300();
         CHECK.end();
     }
 
@@ -167,6 +171,24 @@ public final class ProgramsLimitsTest {
         CHECK.due("grown(false, 2)", 9, () -> maker.grown(false, 2));
         CHECK.due("grown(true, 2)", 7, () -> maker.grown(true, 2));
         CHECK.refused("solved(0)", Check.STATE, () -> maker.solved(0));
+    }
+
+    private static void deepestBehindThen() {
+        CHECK.promise("promise 28, 'the most ifs within one another', each behind then");
+        PartMaker maker = new PartMaker();
+        maker.many(3);
+        maker.example(-5, 5, 5, 20);
+        maker.example(5, 9, 9, 30);
+        maker.example(6, 9, 2, 40);
+        maker.example(7, 1, 1, 50);
+        Check.allowNoPart(maker);
+        maker.constants();
+        CHECK.due("make(3)", 16, () -> maker.make(3));
+        CHECK.writes("writeSolved()", "[(x<y)?[(x<z)?[(x<0)?20:30]:40]:50]", maker, () -> maker.writeSolved());
+        CHECK.due("solved(1)", 3, () -> maker.solved(1));
+        CHECK.due("solved(2)", 3, () -> maker.solved(2));
+        CHECK.due("solve(2)", 16, () -> maker.solve(2));
+        CHECK.due("solved(2)", 2, () -> maker.solved(2));
     }
 
     private static void oneIfLess() {
@@ -428,12 +450,7 @@ public final class ProgramsLimitsTest {
 
     private static void makeFull() {
         CHECK.promise("promise 27, 'one that came to 1 or 3 is not grown any more'");
-        PartMaker maker = new PartMaker();
-        maker.many(3);
-        for (int e = 0; e < 12; e++) {
-            maker.example(e - 6, e * e % 11 - 4, e * 7 % 13 - 5, 100 * e - 555);
-        }
-        maker.budget(20000);
+        PartMaker maker = Check.ofTwelve(100, 555);
         CHECK.due("make(0)", -1, () -> maker.make(0));
         CHECK.due("grown(false, 3)", 1, () -> maker.grown(false, 3));
         CHECK.due("grown(true, 2)", 0, () -> maker.grown(true, 2));
@@ -598,7 +615,7 @@ public final class ProgramsLimitsTest {
     }
 
     private static void withoutPart() {
-        CHECK.promise("promise 33, 'those KEPT EXPRESSIONS and TESTS alone in which a PART does not stand' (SOLVED stays)");
+        CHECK.promise("promise 33, 'those ... alone in which a PART does not stand'; '(SOLVED stays.)'");
         PartMaker maker = Check.ofOne(1, -1, 0, 0, 5, -5);
         Check.allowOnly(maker, 1, 5);
         Check.grow(maker, false, 3);
@@ -710,7 +727,7 @@ public final class ProgramsLimitsTest {
     }
 
     private static void wayBehind() {
-        CHECK.promise("promise 37, 'the k-th TEST that is asked there, doubled, and 1 more where it is 1; NONE behind'");
+        CHECK.promise("promise 37, 'the k-th TEST ..., doubled, and 1 more where it is 1; NONE behind'");
         PartMaker maker = steps();
         CHECK.dueAll("way of -1", k -> maker.way(-1, 0, 0, k), 3, -1, -1);
         CHECK.dueAll("way of 0", k -> maker.way(0, 0, 0, k), 2, 5, -1);
@@ -868,13 +885,114 @@ public final class ProgramsLimitsTest {
     }
 
     private static void splitsLeastNumber() {
-        CHECK.promise("promise 41, 'The TEST of the least number that is 1 on all EXAMPLES of one set and 0 on all of'");
+        CHECK.promise("promise 41, 'The TEST of the least number that is 1 on all ... and 0 on all of another'");
         PartMaker maker = steps();
         // of TESTS 0 to 7 the sets are 16, 17, 19, 23, 15, 12, 2, 8
-        int[][] told = {{16, 1, 0}, {1, 2, 1}, {1, 4, 1}, {2, 4, 2}, {2, 1, 6}, {4, 8, 3}, {8, 1, 5}, {8, 4, 7}, {1, 16, 4},
-            {17, 2, 1}, {17, 14, 1}, {3, 4, 2}, {5, 2, -1}, {12, 3, 5}, {2, 17, 6}, {18, 4, 2}, {18, 1, -1}};
+        int[][] told = {{16, 1, 0}, {1, 2, 1}, {1, 4, 1}, {2, 4, 2}, {2, 1, 6}, {4, 8, 3}, {8, 1, 5}, {8, 4, 7},
+            {1, 16, 4}, {17, 2, 1}, {17, 14, 1}, {3, 4, 2}, {5, 2, -1}, {12, 3, 5}, {2, 17, 6}, {18, 4, 2},
+            {18, 1, -1}};
         for (int[] t : told) {
             CHECK.due("splits(" + t[0] + ", " + t[1] + ")", t[2], () -> maker.splits(t[0], t[1]));
         }
+    }
+
+    /** x y WANTED by turns; 7 is a CONSTANT; no PARTS. */
+    private static PartMaker withSeven(int... told) {
+        PartMaker maker = Check.ofTwo(told);
+        Check.allowNoPart(maker);
+        maker.constant(7);
+        Check.grow(maker, false, 1);
+        Check.grow(maker, true, 1);
+        return maker;
+    }
+
+    private static void tellAnew(PartMaker maker, int... told) {
+        maker.many(2);
+        for (int i = 0; i + 2 < told.length; i += 3) {
+            maker.example(told[i], told[i + 1], 0, told[i + 2]);
+        }
+    }
+
+    private static void byWhatIsKeptNow() {
+        CHECK.promise("promises 34, 35, 39 to 41, 'by what is KEPT': as more grows");
+        // -(x), 0 and 1; then (x+1), which COVERS the first two
+        PartMaker maker = Check.ofOne(-1, 1, 1, -1, 3, 4, 8, 9, 20, 20);
+        maker.constant(4);
+        maker.constant(9);
+        Check.grow(maker, false, 2);
+        CHECK.due("fewest(), -(x), 4, 9, x", 4, () -> maker.fewest());
+        CHECK.dueAll("fits(12)", what -> maker.fits(12, what), -1, -1);
+        CHECK.dueAll("ties, no TESTS", maker::ties, 0, 0, 0, 0);
+        CHECK.due("needed(), no TESTS", -1, () -> maker.needed());
+        Check.grow(maker, false, 1);
+        CHECK.due("fewest(), -(x), (x+1), x", 3, () -> maker.fewest());
+        int next = Check.numberOf(maker, false, "(x+1)");
+        CHECK.dueAll("fits(12)", what -> maker.fits(12, what), 3, next);
+        Check.grow(maker, true, 1);
+        CHECK.due("needed()", 2, () -> maker.needed());
+        PartMaker tied = Check.ofOne(3, 3, 8, 5);
+        Check.allowOnly(tied, 5);
+        tied.constant(3);
+        tied.constant(5);
+        Check.grow(tied, false, 1);
+        Check.grow(tied, true, 1);
+        CHECK.dueAll("ties", tied::ties, 0, 4, 4, 4);
+        CHECK.due("splits(1, 2)", 0, () -> tied.splits(1, 2));
+        tied.many(1);
+        tied.example(8, 0, 0, 7);
+        tied.example(3, 0, 0, 5);
+        tied.constant(7);
+        Check.grow(tied, false, 1);
+        Check.grow(tied, true, 1);
+        // x<5, x<7 are alike, and 3<x; x is 7 or 5 nowhere
+        CHECK.dueAll("ties, anew", tied::ties, 0, 2, 2, 2);
+    }
+
+    private static void whatIsGoneCountsForNothing() {
+        CHECK.promise("promises 34, 39 to 41: EXPRESSIONS and TESTS that are gone count for nothing");
+        PartMaker none = withSeven(5, 6, 7, 7, 8, 7, 8, 9, 7);
+        CHECK.due("fewest(), 7", 1, () -> none.fewest());
+        CHECK.dueAll("fits(7), 7", what -> none.fits(7, what), 1, 4);
+        CHECK.due("splits(1, 6)", 0, () -> none.splits(1, 6));
+        none.part(0, false);
+        CHECK.dueAll("fits(7), gone", what -> none.fits(7, what), -1, -1);
+        CHECK.due("splits(1, 6), gone", -1, () -> none.splits(1, 6));
+        CHECK.due("fewest(), gone", -1, () -> none.fewest());
+        CHECK.due("nearest(), gone", -1, () -> none.nearest());
+        CHECK.due("ofSize(false, 1), gone", 0, () -> none.ofSize(false, 1));
+        // y is MERGED with x: one less is KEPT than before, and 7 FITS none
+        tellAnew(none, 5, 5, 5, 7, 7, 0, 8, 8, 1);
+        Check.grow(none, false, 1);
+        Check.grow(none, true, 1);
+        CHECK.due("grown(false, 0)", 4, () -> none.grown(false, 0));
+        CHECK.due("fewest(), x, 0, 1", 3, () -> none.fewest());
+        CHECK.dueAll("fits(7)", what -> none.fits(7, what), -1, -1);
+        CHECK.dueAll("fits(1)", what -> none.fits(1, what), 1, 0);
+        PartMaker tied = withSeven(5, 6, 7, 7, 8, 7);
+        CHECK.dueAll("ties, 7", tied::ties, 1, 1, 1, 1);
+        tellAnew(tied, 5, 5, 5, 7, 7, 0);
+        Check.grow(tied, false, 1);
+        Check.grow(tied, true, 1);
+        // x<7 and x=7, each with x and 0
+        CHECK.dueAll("ties, anew", tied::ties, 0, 2, 2, 2);
+    }
+
+    private static void setsWithAll300() {
+        CHECK.promise("promises 22, 34, 35, 39 to 41, with 300 and 150 KEPT ones");
+        PartMaker maker = Check.ofTwelve(100, 555);
+        for (int v : new int[] {9, -3, -6, 4}) {
+            maker.constant(v);
+        }
+        Check.grow(maker, false, 9);
+        Check.grow(maker, true, 5);
+        CHECK.due("grown(false, 0)", 300, () -> maker.grown(false, 0));
+        CHECK.due("grown(true, 0)", 150, () -> maker.grown(true, 0));
+        CHECK.dueAll("fits(4095)", what -> maker.fits(4095, what), -1, -1);
+        CHECK.due("fewest()", -1, () -> maker.fewest());
+        CHECK.dueAll("ties", maker::ties, 0, 0, 0, 0);
+        CHECK.due("needed()", -1, () -> maker.needed());
+        CHECK.due("splits, all twelve", -1, () -> maker.splits(0b100110010110, 0b011001101001));
+        CHECK.due("solve(3)", -1, () -> maker.solve(3));
+        CHECK.due("ofSize(false, 1)", 9, () -> maker.ofSize(false, 1));
     }
 }

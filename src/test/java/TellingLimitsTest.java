@@ -27,6 +27,7 @@ public final class TellingLimitsTest {
         constantsOfWanted();
         constantsOfWantedLessX();
         constantsAsLongAsThereIsRoom();
+        constantsOfEachExampleThatIsLeft();
         budgetNone();
         countAnother();
         toldNoneSuch();
@@ -340,6 +341,24 @@ public final class TellingLimitsTest {
                 }
             }
         }
+    }
+
+    private static void constantsOfEachExampleThatIsLeft() {
+        CHECK.promise("promise 7, 'EXAMPLE by EXAMPLE': the first and the last of them, none that is gone");
+        PartMaker twelve = new PartMaker();
+        for (int x = 0; x < 12; x++) {
+            twelve.example(x, 0, 0, x == 0 ? 30 : x == 11 ? 50 : 1);
+        }
+        // 30; 1 less 1 to 10 is 0 to -9; 50, 39 have no room any more
+        CHECK.due("constants() of twelve", 8, () -> twelve.constants());
+        CHECK.dueAll("constantAt", twelve::constantAt, -7, -6, -5, -4, -3, -2, -1, 0, 1, 30);
+        PartMaker gone = Check.ofOne(0, 30, 1, 1, 2, 50);
+        CHECK.due("drop(2)", 2, () -> gone.drop(2));
+        CHECK.due("constants(), 30 alone", 1, () -> gone.constants());
+        CHECK.due("many(1)", 2, () -> gone.many(1));
+        CHECK.due("constants(), all are gone", 0, () -> gone.constants());
+        PartMaker last = Check.ofOne(0, 0, 1, 1, 2, 50);
+        CHECK.due("constants(), 50 and 48 of the last", 2, () -> last.constants());
     }
 
     private static void budgetNone() {
