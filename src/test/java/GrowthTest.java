@@ -18,6 +18,9 @@ public final class GrowthTest {
         orderOfSizes();
         orderOfConstants();
         testsBySize();
+        testsByTheSizeOfTheFirst();
+        notAheadOfAnd();
+        fullBehindNots();
         testsOfLaterExpressions();
         lastLevels();
         budgetGoesBack();
@@ -152,6 +155,65 @@ public final class GrowthTest {
         CHECK.due("ofSize(true, 7)", 4, () -> maker.ofSize(true, 7));
         grown(maker, true, 14, 21, 7, 0, 54, 89);
         CHECK.due("grow(true), LEVEL 7", 3, () -> maker.grow(true));
+    }
+
+    private static void testsByTheSizeOfTheFirst() {
+        CHECK.promise("GROWTH, '‹ (by the SIZE of the first, numbers), = (...), not'");
+        PartMaker maker = Check.ofOne(-3, 0, -1, 0, 0, 0, 1, 0, 2, 0, 4, 0);
+        Check.allowOnly(maker, 5);
+        maker.constant(2);
+        Check.grow(maker, false, 2);
+        Check.grow(maker, true, 2);
+        grown(maker, true, 17, 17, 4, 0, 33, 67);
+        texts(maker, true, 9, "(x<-(1))", "(-(x)<1)", "(-(x)<2)", "(x=-(1))", "!((2<x))", "!((x=0))", "!((x=1))",
+                "!((x=2))");
+        // the first that was MERGED has its first of SIZE 1 where there is any
+        String[] first = {"(x<-(x))", "!((0<x))", "!((1<x))", "(-(x)<x)", "!((x<2))"};
+        for (int k = 0; k < first.length; k++) {
+            int told = k;
+            CHECK.writes("writeMerged(true, " + k + ")", first[k], maker, () -> maker.writeMerged(true, told));
+        }
+        CHECK.due("writeMerged(true, 5)", -1, () -> maker.writeMerged(true, 5));
+        CHECK.writes("writeMerged(true, 10)", "(-(1)<x)", maker, () -> maker.writeMerged(true, 10));
+    }
+
+    /** SIZE 7 is the only one with both: its nots are of TESTS of SIZE 6, its ands of two of SIZE 3. */
+    private static void notAheadOfAnd() {
+        CHECK.promise("GROWTH, 'not, and (...) in this order'");
+        PartMaker maker = Check.ofTwo(-1, 5, 0, 5, 3, 0, 2, 0, 0);
+        Check.allowOnly(maker, 9);
+        Check.grow(maker, false, 2);
+        Check.grow(maker, true, 4);
+        grown(maker, true, 6, 28, 6, 0, 22, 56);
+        texts(maker, true, 4, "(sgn(x)=sgn(y))", "!((sgn(x)=sgn(y)))");
+        CHECK.due("writeMerged(true, 4), SIZE 6", -1, () -> maker.writeMerged(true, 4));
+        CHECK.due("grow(true), SIZE 7", 0, () -> maker.grow(true));
+        // one not and six ands; (y<x)&(0<y) is MERGED with the same one, but behind the not
+        grown(maker, true, 6, 32, 7, 0, 25, 63);
+        CHECK.due("kept(true, 4, 1)", 2, () -> maker.kept(true, 4, 1));
+        CHECK.writes("writeMerged(true, 4)", "!(!((sgn(x)=sgn(y))))", maker, () -> maker.writeMerged(true, 4));
+    }
+
+    private static void fullBehindNots() {
+        CHECK.promise("GROWTH, 'not, and (...) in this order', FULL among the ands");
+        PartMaker maker = new PartMaker();
+        maker.many(3);
+        Check.allowOnly(maker, 7, 8, 9);
+        maker.constant(-3);
+        int[] told = {-3, 5, 6, 0, 1, -4, 4, -4, -6, -1, -5, -4, 1, -1, -1, 4, 6, 1, 1, -6, 1, -3, 2, 1, -5, 5, 5,
+            3, 1, -1};
+        for (int i = 0; i < told.length; i += 3) {
+            maker.example(told[i], told[i + 1], told[i + 2], 0);
+        }
+        Check.grow(maker, false, 2);
+        Check.grow(maker, true, 4);
+        grown(maker, true, 136, 152, 6, 0, 120, 408);
+        CHECK.due("ofSize(true, 6)", 15, () -> maker.ofSize(true, 6));
+        CHECK.due("grow(true), FULL", 1, () -> maker.grow(true));
+        // 15 nots, all MERGED, are MADE ahead of the 151st
+        grown(maker, true, 150, 281, 6, 1, 175, 607);
+        texts(maker, true, 136, "((x<y)&(z<x))");
+        texts(maker, true, 149, "((y<-3)&(z<y))");
     }
 
     private static void testsOfLaterExpressions() {

@@ -32,6 +32,7 @@ public final class ProgramsLimitsTest {
         makeBudgetUsedUp();
         makeNone();
         makeFull();
+        makeFullNow();
         solvedAnother();
         comesInputs();
         writeSolvedNone();
@@ -463,6 +464,29 @@ public final class ProgramsLimitsTest {
         CHECK.due("nothing is MADE", made, () -> maker.grown(false, 5) + maker.grown(true, 5));
     }
 
+    private static PartMaker thrice() {
+        PartMaker maker = new PartMaker();
+        maker.many(3);
+        maker.budget(20000);
+        for (int e = 0; e < 12; e++) {
+            maker.example(e - 6, e * e % 11 - 4, e * 7 % 13 - 5, 3 * (e - 6));
+        }
+        return maker;
+    }
+
+    private static void makeFullNow() {
+        CHECK.promise("promise 27, 'then solve(ifs)' also where EXPRESSIONS are FULL now");
+        PartMaker maker = thrice();
+        CHECK.due("make(0)", 5, () -> maker.make(0));
+        CHECK.dueAll("grown(false)", what -> maker.grown(false, what), 300, 280, 4, 1, 0, 581);
+        CHECK.writes("writeSolved()", "(x+(x+x))", maker, () -> maker.writeSolved());
+        PartMaker turns = thrice();
+        CHECK.due("make(1)", 5, () -> turns.make(1));
+        CHECK.dueAll("grown(false)", what -> turns.grown(false, what), 300, 280, 4, 1, 0, 581);
+        // TESTS had four turns, and are not grown behind the fifth of EXPRESSIONS
+        CHECK.due("grown(true, 2)", 6, () -> turns.grown(true, 2));
+    }
+
     private static void solvedAnother() {
         CHECK.promise("promise 28, 'none was, or it is gone', 'another what'");
         PartMaker maker = steps();
@@ -662,6 +686,10 @@ public final class ProgramsLimitsTest {
                 7, 2, 8, 8, 6, 6, 3, 6);
         CHECK.dueAll("ties, above", above::ties, 0, 0, 0, 1_000_000_000);
         CHECK.due("ties(3) again", 1_000_000_000, () -> above.ties(3));
+        // 4,984,538,400 in all, 2,192,375,040 of them with one and the same first TEST: both beyond ints
+        PartMaker beyond = tied(4, 8, 8, 4, 0, 3, 3, 1, 8, 1, 0, 8, 7, 9, 1, 5, 1, 2, 0, 2, 3, 0, 9, 9, 5, 5, 2, 6,
+                9, 7, 8, 7, 6, 6, 5, 6);
+        CHECK.dueAll("ties, beyond ints", beyond::ties, 0, 0, 0, 1_000_000_000);
     }
 
     private static void tiesWithoutAny() {

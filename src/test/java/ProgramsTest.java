@@ -21,6 +21,8 @@ public final class ProgramsTest {
         way();
         isIdle();
         isIdleByWhatIsKeptNow();
+        isIdleOfTwelve();
+        isIdleBehindTies();
         isIdleBehindWithout();
         foundAnew();
         fits();
@@ -402,6 +404,16 @@ public final class ProgramsTest {
         CHECK.due("needed()", 1, () -> two.needed());
         CHECK.due("needed()", 2, () -> steps().needed());
         CHECK.due("needed()", 3, () -> stairs().needed());
+        // x*(x*(x*x)) needs none, though with one if there is a smaller PROGRAM
+        PartMaker power = Check.ofOne(0, 0, 1, 1, 2, 16);
+        Check.allowOnly(power, 2);
+        power.constant(16);
+        Check.grow(power, false, 7);
+        power.grow(true);
+        CHECK.due("solve(0)", 7, () -> power.solve(0));
+        CHECK.due("solve(1)", 6, () -> power.solve(1));
+        CHECK.writes("writeSolved()", "[(1<x)?16:x]", power, () -> power.writeSolved());
+        CHECK.due("needed(), SOLVED has an if", 0, () -> power.needed());
         PartMaker none = Check.ofOne(3, 33);
         none.grow(false);
         CHECK.due("needed(), NONE", -1, () -> none.needed());
@@ -515,6 +527,41 @@ public final class ProgramsTest {
         CHECK.is("isIdle(2)", false, () -> other.isIdle(2));
     }
 
+    private static void isIdleOfTwelve() {
+        CHECK.promise("promise 38, of twelve EXAMPLES");
+        PartMaker maker = new PartMaker();
+        for (int e = 0; e < 12; e++) {
+            maker.example(10 * e - 50, 0, 0, e < 9 ? 10 * e - 50 : e < 11 ? 0 : 1);
+        }
+        Check.allowNoPart(maker);
+        maker.constant(35);
+        maker.constant(55);
+        maker.grow(false);
+        maker.grow(true);
+        CHECK.due("solve(3)", 11, () -> maker.solve(3));
+        CHECK.writes("writeSolved()", "[(x<35)?x:[(x<55)?0:1]]", maker, () -> maker.writeSolved());
+        for (int e = 0; e < 12; e++) {
+            int asked = e;
+            CHECK.is("isIdle(" + e + "), the last alone comes to 1", e < 11, () -> maker.isIdle(asked));
+        }
+    }
+
+    private static void isIdleBehindTies() {
+        CHECK.promise("promise 38, 'the ifs of the call by which it was SOLVED', behind ties() with others");
+        PartMaker maker = Check.ofOne(-2, 0, 2, 1, -3, 0);
+        Check.allowOnly(maker, 1, 9);
+        Check.grow(maker, false, 7);
+        maker.solve(0);
+        maker.grow(true);
+        CHECK.is("isIdle(0), SOLVED with 0 ifs", true, () -> maker.isIdle(0));
+        CHECK.due("ties(1)", 2, () -> maker.ties(1));
+        CHECK.is("isIdle(0), as before", true, () -> maker.isIdle(0));
+        CHECK.due("needed()", 0, () -> maker.needed());
+        CHECK.due("without(0, 1)", 6, () -> maker.without(0, 1));
+        CHECK.is("isIdle(0), as before", true, () -> maker.isIdle(0));
+        CHECK.writes("writeSolved()", "(1-sgn((1-sgn(x))))", maker, () -> maker.writeSolved());
+    }
+
     private static void isIdleBehindWithout() {
         CHECK.promise("promise 38, behind without()");
         PartMaker maker = Check.ofOne(1, -1, 0, 0, 5, -5);
@@ -578,12 +625,13 @@ public final class ProgramsTest {
         CHECK.due("fewest(), some not COVERED", -1, () -> odd.fewest());
         odd.make(0);
         CHECK.due("fewest(), SOLVED", 1, () -> odd.fewest());
-        // x COVERS four, but with 1 and 2 (three each) two are enough
-        PartMaker greedy = Check.ofTwo(1, 1, 1, 1, 0, 1, 5, 1, 1, 2, 2, 2, 2, 0, 2, 5, 2, 2);
+        // x COVERS four and y none, but with 1 and 2 (three each) two are enough
+        PartMaker greedy = Check.ofTwo(1, 7, 1, 1, 0, 1, 5, 9, 1, 2, 7, 2, 2, 0, 2, 5, 8, 2);
         Check.allowNoPart(greedy);
         greedy.constant(2);
         greedy.grow(false);
         CHECK.due("kept(false, 0, 2), x", 1 + 2 + 8 + 16, () -> greedy.kept(false, 0, 2));
+        CHECK.due("kept(false, 1, 2), y", 0, () -> greedy.kept(false, 1, 2));
         CHECK.due("fewest(), 1 and 2", 2, () -> greedy.fewest());
     }
 

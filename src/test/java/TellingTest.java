@@ -47,6 +47,19 @@ public final class TellingTest {
         CHECK.due("count(1), as refused", 1, () -> maker.count(1));
         CHECK.due("many(3) again", 1, () -> maker.many(3));
         CHECK.due("many(1)", 0, () -> maker.many(1));
+
+        CHECK.promise("promise 2, EXAMPLES alone go");
+        PartMaker told = Check.ofOne(1, 1, 2, 2);
+        told.part(0, false);
+        told.part(9, true);
+        told.constant(-7);
+        told.budget(77);
+        CHECK.due("many(2)", 2, () -> told.many(2));
+        CHECK.due("count(1)", 0, () -> told.count(1));
+        CHECK.due("count(2), CONSTANTS stay", 3, () -> told.count(2));
+        CHECK.due("constantAt(0)", -7, () -> told.constantAt(0));
+        CHECK.due("count(3), PARTS stay", 63 - 1 + 512, () -> told.count(3));
+        CHECK.due("count(4), BUDGET stays", 77, () -> told.count(4));
     }
 
     private static void example() {
