@@ -14,11 +14,15 @@ public final class ModelTest {
     private final Model model = new Model();
     private final Random random;
     private final int run;
+
+    /** One run of four takes INPUTS, WANTED and CONSTANTS from all there are, and grows further. */
+    private final boolean isWide;
     private final List<String> history = new ArrayList<>();
 
     private ModelTest(int run) {
         this.run = run;
         this.random = new Random(run);
+        this.isWide = run % 4 == 3;
     }
 
     private interface Call {
@@ -41,7 +45,7 @@ public final class ModelTest {
 
     private boolean isAlike() {
         boolean alike = tellExamples();
-        for (int turn = from(0, 6); alike && turn > 0; turn--) {
+        for (int turn = isWide ? from(5, 12) : from(0, 6); alike && turn > 0; turn--) {
             boolean tests = turn % 2 == 1;
             alike = same("grow(" + tests + ")", () -> maker.grow(tests), () -> model.grow(tests));
         }
@@ -88,7 +92,8 @@ public final class ModelTest {
         if (random.nextInt(40) == 0) {
             return from(-101, 101);
         }
-        return number < model.count(0) ? from(-9, 9) : 0;
+        int most = isWide ? 99 : 9;
+        return number < model.count(0) ? from(-most, most) : 0;
     }
 
     private int wantedFor(int kind, int x, int y, int z) {
@@ -108,7 +113,7 @@ public final class ModelTest {
             case 6:
                 return y == 0 ? 0 : x % y;
             default:
-                return from(-3, 3);
+                return isWide ? from(-999, 999) : from(-3, 3);
         }
     }
 
@@ -116,7 +121,7 @@ public final class ModelTest {
         int many = from(1, 3);
         boolean alike = same("many(" + many + ")", () -> maker.many(many), () -> model.many(many));
         int kind = from(0, 9);
-        int size = from(1, from(1, 12));
+        int size = from(1, isWide ? 13 : from(1, 12));
         for (int e = 0; alike && e < size; e++) {
             alike = tellExample(kind);
         }
@@ -126,7 +131,7 @@ public final class ModelTest {
         for (int p = 0; alike && p <= 5; p++) {
             alike = random.nextInt(3) != 0 || tellPart(p, false);
         }
-        for (int c = from(0, 3); alike && c > 0; c--) {
+        for (int c = from(0, isWide ? 9 : 3); alike && c > 0; c--) {
             alike = tellConstant();
         }
         return alike;
@@ -147,7 +152,7 @@ public final class ModelTest {
     }
 
     private boolean tellConstant() {
-        int v = random.nextInt(10) == 0 ? from(-101, 101) : from(-12, 12);
+        int v = isWide || random.nextInt(10) == 0 ? from(-101, 101) : from(-12, 12);
         return same("constant(" + v + ")", () -> maker.constant(v) ? 1 : 0, () -> model.constant(v) ? 1 : 0);
     }
 
