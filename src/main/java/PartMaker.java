@@ -1593,6 +1593,7 @@ public final class PartMaker {
 
         /** By sets: the fewest EXPRESSIONS that COVER it; 0 as long as not asked. */
         private final int[] fewestKnown = new int[Examples.SETS];
+
         /** TESTS without the barred PART, by their numbers. */
         private final int[] usable = new int[Tests.MOST];
         private int usableCount;

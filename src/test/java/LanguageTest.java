@@ -70,11 +70,13 @@ public final class LanguageTest {
 
     private static int wrong;
 
-    public static void main(String[] args) throws IOException {
+    public static void main(String[] args) throws IOException, ReflectiveOperationException {
         String source = Files.readString(Path.of("src/main/java/PartMaker.java"), StandardCharsets.UTF_8);
         face();
+        hold(PartMaker.class.getField("NONE").getInt(null) == -1, "NONE is -1");
         insideClasses();
         staticFields();
+        types();
         words(source);
         lengths(source);
         System.out.println(wrong == 0 ? "the class keeps to its face and its language" : wrong + " rules are broken");
@@ -164,6 +166,22 @@ public final class LanguageTest {
         }
     }
 
+    /** Of all rule 3 leaves, those that the class needs. */
+    private static void types() {
+        List<Class<?>> fine = allClasses();
+        fine.addAll(List.of(void.class, int.class, long.class, boolean.class, char.class, byte.class, String.class,
+                int[].class, long[].class, char[].class, byte[].class, int[][].class));
+        for (Class<?> type : allClasses()) {
+            for (Field field : type.getDeclaredFields()) {
+                hold(fine.contains(field.getType()), field + " is of a type that may be used");
+            }
+            for (Method method : type.getDeclaredMethods()) {
+                hold(fine.contains(method.getReturnType()) && fine.containsAll(Arrays.asList(method.getParameterTypes())),
+                        method + " has types that may be used");
+            }
+        }
+    }
+
     private static void words(String source) {
         hold(source.chars().allMatch(sign -> sign == '\n' || sign >= ' ' && sign < 127), "plain signs alone");
         String code = source.replaceAll("(?s)/\\*.*?\\*/", "").replaceAll("//[^\n]*", "");
@@ -173,6 +191,7 @@ public final class LanguageTest {
             Pattern pattern = Pattern.compile(isWord ? "\\b" + Pattern.quote(word) + "(?!\\w)" : Pattern.quote(word));
             hold(!pattern.matcher(bare).find(), "no " + word);
         }
+        hold(!Pattern.compile("\\bstatic\\s*\\{").matcher(bare).find(), "no static initialiser block");
         Matcher library = Pattern.compile("\\b(Math|Integer|Long|Arrays|System|String|Character|java)\\.\\w+").matcher(bare);
         while (library.find()) {
             hold(LIBRARY.contains(library.group()), "the library has " + library.group());
