@@ -1,3 +1,5 @@
+import java.util.Arrays;
+
 /** Promises 1 to 8 and 42 to 44: what is told to a PartMaker, and asked back. */
 public final class TellingTest {
     private static final Check CHECK = new Check();
@@ -13,6 +15,7 @@ public final class TellingTest {
         budget();
         allThatWasMadeGoes();
         whatIsRefusedChangesNothing();
+        whatIsToldStays();
         count();
         told();
         constantAt();
@@ -252,6 +255,60 @@ public final class TellingTest {
         CHECK.due("solved(5)", 0, () -> maker.solved(5));
         CHECK.due("grown(false, 0)", 5, () -> maker.grown(false, 0));
         CHECK.due("grown(true, 2)", 3, () -> maker.grown(true, 2));
+    }
+
+    /** MANY, EXAMPLES, CONSTANTS, PARTS, BUDGET, bytes WRITTEN, then the CONSTANTS, then all of the EXAMPLES. */
+    private static void told(String behind, PartMaker maker, long... due) {
+        CHECK.dueAll("count, behind " + behind, maker::count, Arrays.copyOf(due, 6));
+        int at = 6;
+        for (int k = 0; k < due[2]; k++) {
+            int asked = k;
+            CHECK.due("constantAt(" + k + "), behind " + behind, due[at++], () -> maker.constantAt(asked));
+        }
+        for (int e = 0; e < due[1]; e++) {
+            for (int what = 0; what <= 3; what++) {
+                int example = e;
+                int asked = what;
+                CHECK.due("told(" + e + ", " + what + "), behind " + behind, due[at++],
+                        () -> maker.told(example, asked));
+            }
+        }
+    }
+
+    private static PartMaker toldAll() {
+        PartMaker maker = Check.ofTwo(4, -2, 9, 5, 3, -7);
+        Check.allowOnly(maker, 1, 9);
+        maker.constant(-7);
+        maker.budget(77);
+        maker.grow(false);
+        maker.write(false, 2);
+        return maker;
+    }
+
+    private static void whatIsToldStays() {
+        CHECK.promise("promises 2 to 9, 26 and 27: what a call does not tell stays");
+        PartMaker maker = toldAll();
+        told("all", maker, 2, 2, 3, 514, 77, 2, -7, 0, 1, 4, -2, 0, 9, 5, 3, 0, -7);
+        maker.grow(false);
+        told("grow", maker, 2, 2, 3, 514, 77, 2, -7, 0, 1, 4, -2, 0, 9, 5, 3, 0, -7);
+        CHECK.due("solve(0)", 1, () -> maker.solve(0) < 0 ? 1 : 0);
+        told("solve", maker, 2, 2, 3, 514, 77, 2, -7, 0, 1, 4, -2, 0, 9, 5, 3, 0, -7);
+        maker.make(1);
+        told("make", maker, 2, 2, 3, 514, 77, 2, -7, 0, 1, 4, -2, 0, 9, 5, 3, 0, -7);
+        maker.example(6, 6, 0, 8);
+        told("example", maker, 2, 3, 3, 514, 77, 2, -7, 0, 1, 4, -2, 0, 9, 5, 3, 0, -7, 6, 6, 0, 8);
+        maker.drop(0);
+        told("drop", maker, 2, 2, 3, 514, 77, 2, -7, 0, 1, 5, 3, 0, -7, 6, 6, 0, 8);
+        maker.part(1, false);
+        told("part", maker, 2, 2, 3, 512, 77, 2, -7, 0, 1, 5, 3, 0, -7, 6, 6, 0, 8);
+        maker.constant(50);
+        told("constant", maker, 2, 2, 4, 512, 77, 2, -7, 0, 1, 50, 5, 3, 0, -7, 6, 6, 0, 8);
+        maker.constants();
+        told("constants", maker, 2, 2, 7, 512, 77, 2, -12, -7, 0, 1, 2, 8, 50, 5, 3, 0, -7, 6, 6, 0, 8);
+        maker.budget(20000);
+        told("budget", maker, 2, 2, 7, 512, 20000, 2, -12, -7, 0, 1, 2, 8, 50, 5, 3, 0, -7, 6, 6, 0, 8);
+        maker.many(3);
+        told("many", maker, 3, 0, 7, 512, 20000, 2, -12, -7, 0, 1, 2, 8, 50);
     }
 
     private static void count() {
